@@ -458,8 +458,8 @@ public final class TrainPipe {
 
         private final Tokens tokens;
         final Rake draft = new Rake();
-        private boolean fullTold = false;
-        private boolean feedTold = false;
+        private int fullTold = NONE;
+        private int feedTold = NONE;
 
         TrainText(Tokens tokens) {
             this.tokens = tokens;
@@ -468,8 +468,8 @@ public final class TrainPipe {
         /** How many LINES; NONE: a FAULT, which the tokens keep. */
         int readTape() {
             draft.clear();
-            fullTold = false;
-            feedTold = false;
+            fullTold = NONE;
+            feedTold = NONE;
             tokens.open(MOST_BYTES);
             int lines = 0;
             while (lines < Tape.MOST && !tokens.atEnd()) {
@@ -482,15 +482,19 @@ public final class TrainPipe {
                 tokens.refuse(FAULT_TOKEN);
                 return NONE;
             }
+            draft.full = fullTold == NONE ? draft.full : fullTold;
+            draft.feed = feedTold == NONE ? draft.feed : feedTold;
             return lines;
         }
 
         private boolean readLine() {
             if (tokens.isWord("full")) {
-                return readFull();
+                fullTold = takeOnce(fullTold, 300, 900);
+                return fullTold != NONE;
             }
             if (tokens.isWord("feed")) {
-                return readFeed();
+                feedTold = takeOnce(feedTold, 1, 99);
+                return feedTold != NONE;
             }
             if (tokens.isWord("car")) {
                 return readCar() && readOptions();
@@ -498,32 +502,14 @@ public final class TrainPipe {
             return tokens.refuse(FAULT_TOKEN);
         }
 
-        private boolean readFull() {
-            if (fullTold) {
-                return tokens.refuse(FAULT_TWICE);
+        /** The NUMBER behind the word at hand, which may not have told one before. */
+        private int takeOnce(int before, int least, int most) {
+            if (before != NONE) {
+                tokens.refuse(FAULT_TWICE);
+                return NONE;
             }
-            fullTold = true;
             tokens.read();
-            int told = tokens.takeNumber(300, 900);
-            if (told == NONE) {
-                return false;
-            }
-            draft.full = told;
-            return true;
-        }
-
-        private boolean readFeed() {
-            if (feedTold) {
-                return tokens.refuse(FAULT_TWICE);
-            }
-            feedTold = true;
-            tokens.read();
-            int told = tokens.takeNumber(1, 99);
-            if (told == NONE) {
-                return false;
-            }
-            draft.feed = told;
-            return true;
+            return tokens.takeNumber(least, most);
         }
 
         private boolean readCar() {

@@ -69,6 +69,12 @@ public final class ModelTest {
         return s.toString();
     }
 
+    /** Sets some brakes and lets all go again, which handles at random hardly ever do. */
+    private static String easingText(Random r) {
+        return pick(r, "", "both;") + pick(r, "dump 1;", "draw 40 2;", "draw 9 20;hold 5;", "dump 3;hold 2;")
+            + "let 99;let " + (1 + r.nextInt(99)) + ";" + pick(r, "", "dump 1;", "hold 9;draw 30 2;let 9;");
+    }
+
     private static String handleText(Random r, int steps) {
         StringBuilder s = new StringBuilder(r.nextInt(4) == 0 ? "both;" : "");
         for (int i = 0; i < steps; i++) {
@@ -150,7 +156,7 @@ public final class ModelTest {
     private static void tellTrain(Pair pair, Random r, int cars) {
         pair.put(shortened(trainText(r, cars)));
         pair.train();
-        pair.put(handleText(r, r.nextInt(7)));
+        pair.put(r.nextInt(4) == 0 ? easingText(r) : handleText(r, r.nextInt(7)));
         pair.handle();
     }
 
