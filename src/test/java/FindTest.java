@@ -222,6 +222,8 @@ public final class FindTest {
             day(q, true, 7, d < 7 ? d : 8 + d % 30);
         }
         Check.due("next behind 40 days", next(q, 7), 1);
+        Check.due("mended behind the 40th day", q.mended(7), true);
+        Check.due("next behind that", next(q, 7), 0);
     }
 
     private static void suspects() {
