@@ -8,6 +8,7 @@ public final class TrainPipe {
     public static final int NONE = -1;
 
     private static final int NOT_AS_TOLD = -2;
+    private static final int NO_LIMIT = 2147483647;
     private static final int FED_BYTES = 20;
 
     private static final int MOST_CARS = 16;
@@ -155,7 +156,7 @@ public final class TrainPipe {
         hasRun = true;
         air.start(rake);
         ride.start(grade, speed, snow);
-        return ride.spanWithin(Integer.MAX_VALUE, rake, lever, air);
+        return ride.spanWithin(NO_LIMIT, rake, lever, air);
     }
 
     public int ran(int what) {
@@ -1148,7 +1149,7 @@ public final class TrainPipe {
             air.start(told);
             air.partBehind(k, tick);
             ride.start(grade, speed, snow);
-            return ride.spanWithin(Integer.MAX_VALUE, told, lever, air);
+            return ride.spanWithin(NO_LIMIT, told, lever, air);
         }
 
         int leastOrder() {
@@ -1158,7 +1159,7 @@ public final class TrainPipe {
             for (int i = 0; i < ALL_ORDERS; i++) {
                 layOrder();
                 // A later order has to be less to count, so a RUN may end where it is not.
-                int span = spanOfBent(least == NONE ? Integer.MAX_VALUE : least - 1);
+                int span = spanOfBent(least == NONE ? NO_LIMIT : least - 1);
                 if (span != NONE) {
                     least = span;
                     keepOrder();
@@ -1175,7 +1176,7 @@ public final class TrainPipe {
             firstOrder();
             for (int i = 0; i < ALL_ORDERS; i++) {
                 layOrder();
-                int span = spanOfBent(Integer.MAX_VALUE);
+                int span = spanOfBent(NO_LIMIT);
                 if (span == NONE || span > greatest) {
                     greatest = span;
                     keepOrder();
