@@ -6,6 +6,8 @@ final class Check {
     static final int THROWN = Integer.MIN_VALUE;
     private static int wrong = 0;
     private static int asked = 0;
+    /** Stands ahead of every wrong answer that is told: which sentence of the document it breaks. */
+    private static String under = "";
 
     private Check() { }
 
@@ -13,8 +15,16 @@ final class Check {
         asked++;
         if (got != due) {
             wrong++;
-            System.out.println(what + ": answered " + got + ", due is " + due);
+            System.out.println(under + what + ": answered " + got + ", due is " + due);
         }
+    }
+
+    static void under(String sentence) {
+        under = sentence.isEmpty() ? "" : sentence + " | ";
+    }
+
+    static int asked() {
+        return asked;
     }
 
     static void due(String what, boolean got, boolean due) {

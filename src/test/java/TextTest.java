@@ -66,120 +66,100 @@ public final class TextTest {
         Check.due("are no tokens", p.fault(), 1);
     }
 
-    private static void good(String text, int lines) {
-        TrainPipe p = new TrainPipe();
-        Check.due("train '" + text + "'", Check.train(p, text), lines);
-        Check.due("fault of '" + text + "'", p.fault(), 0);
-        Check.due("tape behind '" + text + "'", p.count(4), 0);
-    }
-
-    private static void bad(String text, int place, int kind) {
-        TrainPipe p = new TrainPipe();
-        Check.due("train '" + text + "'", Check.train(p, text), -1 - place);
-        Check.due("fault of '" + text + "'", p.fault(), kind);
-        Check.due("tape behind '" + text + "'", p.count(4), 0);
-        Check.due("the train stays behind '" + text + "'", p.car(1, 1), 50);
-        Check.due("its full stays behind '" + text + "'", p.at(0, 0, 0), 700);
-    }
-
     private static void trainsAsTold() {
-        good("car old 10;", 1);
-        good("car old 99;", 1);
-        good("car old 099;", 1);
-        good("full 300;car old 10;", 2);
-        good("full 900;feed 1;car old 10;", 3);
-        good("car old 10;feed 99;", 2);
-        good("car\nold\n10\n;\n", 1);
-        good("  car  old 10 ; car slow 10;", 2);
-        good("car quick 10 stuck on out hose 0 leak 0 keep 0;", 1);
-        good("car quick 10 keep 3 leak 99 hose 100 stuck off out;", 1);
-        good("car quick 10 leak 00;car slow 10 leak 1;", 2);
+        Calls.goodTrain("car old 10;", 1);
+        Calls.goodTrain("car old 99;", 1);
+        Calls.goodTrain("car old 099;", 1);
+        Calls.goodTrain("full 300;car old 10;", 2);
+        Calls.goodTrain("full 900;feed 1;car old 10;", 3);
+        Calls.goodTrain("car old 10;feed 99;", 2);
+        Calls.goodTrain("car\nold\n10\n;\n", 1);
+        Calls.goodTrain("  car  old 10 ; car slow 10;", 2);
+        Calls.goodTrain("car quick 10 stuck on out hose 0 leak 0 keep 0;", 1);
+        Calls.goodTrain("car quick 10 keep 3 leak 99 hose 100 stuck off out;", 1);
+        Calls.goodTrain("car quick 10 leak 00;car slow 10 leak 1;", 2);
     }
 
     private static void trainFaults() {
-        bad("", 0, 1);
-        bad("  ", 2, 1);
-        bad("full 700;  ", 11, 1);
-        bad(";", 0, 1);
-        bad("car old 50;;", 11, 1);
-        bad("car", 3, 1);
-        bad("car ", 4, 1);
-        bad("car old", 7, 1);
-        bad("car old 50", 10, 1);
-        bad("car old 50 ", 11, 1);
-        bad("car old 50 keep", 15, 1);
-        bad("car old 50 keep;", 15, 1);
-        bad("car old 50 stuck;", 16, 1);
-        bad("car old 50 stuck 1;", 17, 1);
-        bad("car old 50 on;", 11, 1);
-        bad("car old out;", 8, 1);
-        bad("car 50;", 4, 1);
-        bad("cars old 50;", 0, 1);
-        bad("carold 50;", 0, 1);
-        bad("car old50;", 4, 1);
-        bad("car old 50x;", 8, 1);
-        bad("car old 0050;", 8, 1);
-        bad("car old 50 \t;", 11, 1);
-        bad("car old 50,", 10, 1);
-        bad("car old -50;", 8, 1);
-        bad("car Old 50;", 4, 1);
-        bad("car old 50 50;", 11, 1);
-        bad("full;", 4, 1);
-        bad("full old;", 5, 1);
-        bad("700;", 0, 1);
-        bad("out;", 0, 1);
-        bad("car old 9;", 8, 2);
-        bad("car old 100;", 8, 2);
-        bad("full 299;", 5, 2);
-        bad("full 901;", 5, 2);
-        bad("feed 0;", 5, 2);
-        bad("feed 100;", 5, 2);
-        bad("car old 50 keep 4;", 16, 2);
-        bad("car old 50 leak 100;", 16, 2);
-        bad("car old 50 hose 101;", 16, 2);
-        bad("full 700;full 1;", 9, 3);
-        bad("feed 7;car old 50;feed 7;", 18, 3);
-        bad("car old 50 out keep 1 out;", 22, 3);
-        bad("car old 50 keep 1 keep 9;", 18, 3);
-        bad("car old 50 leak 1 leak 1;", 18, 3);
-        bad("car old 50 hose 1 hose 1;", 18, 3);
-        bad("car old 50 stuck on stuck off;", 20, 3);
-        bad("car old 50 out keep 1 leak 1 hose 1 stuck on out;", 45, 3);
-        bad("full 400;car old 50;car old 5;", 28, 2);
-    }
-
-    private static String blanks(int n) {
-        return " ".repeat(n);
+        Calls.badTrain("", 0, 1);
+        Calls.badTrain("  ", 2, 1);
+        Calls.badTrain("full 700;  ", 11, 1);
+        Calls.badTrain(";", 0, 1);
+        Calls.badTrain("car old 50;;", 11, 1);
+        Calls.badTrain("car", 3, 1);
+        Calls.badTrain("car ", 4, 1);
+        Calls.badTrain("car old", 7, 1);
+        Calls.badTrain("car old 50", 10, 1);
+        Calls.badTrain("car old 50 ", 11, 1);
+        Calls.badTrain("car old 50 keep", 15, 1);
+        Calls.badTrain("car old 50 keep;", 15, 1);
+        Calls.badTrain("car old 50 stuck;", 16, 1);
+        Calls.badTrain("car old 50 stuck 1;", 17, 1);
+        Calls.badTrain("car old 50 on;", 11, 1);
+        Calls.badTrain("car old out;", 8, 1);
+        Calls.badTrain("car 50;", 4, 1);
+        Calls.badTrain("cars old 50;", 0, 1);
+        Calls.badTrain("carold 50;", 0, 1);
+        Calls.badTrain("car old50;", 4, 1);
+        Calls.badTrain("car old 50x;", 8, 1);
+        Calls.badTrain("car old 0050;", 8, 1);
+        Calls.badTrain("car old 50 \t;", 11, 1);
+        Calls.badTrain("car old 50,", 10, 1);
+        Calls.badTrain("car old -50;", 8, 1);
+        Calls.badTrain("car Old 50;", 4, 1);
+        Calls.badTrain("car old 50 50;", 11, 1);
+        Calls.badTrain("full;", 4, 1);
+        Calls.badTrain("full old;", 5, 1);
+        Calls.badTrain("700;", 0, 1);
+        Calls.badTrain("out;", 0, 1);
+        Calls.badTrain("car old 9;", 8, 2);
+        Calls.badTrain("car old 100;", 8, 2);
+        Calls.badTrain("full 299;", 5, 2);
+        Calls.badTrain("full 901;", 5, 2);
+        Calls.badTrain("feed 0;", 5, 2);
+        Calls.badTrain("feed 100;", 5, 2);
+        Calls.badTrain("car old 50 keep 4;", 16, 2);
+        Calls.badTrain("car old 50 leak 100;", 16, 2);
+        Calls.badTrain("car old 50 hose 101;", 16, 2);
+        Calls.badTrain("full 700;full 1;", 9, 3);
+        Calls.badTrain("feed 7;car old 50;feed 7;", 18, 3);
+        Calls.badTrain("car old 50 out keep 1 out;", 22, 3);
+        Calls.badTrain("car old 50 keep 1 keep 9;", 18, 3);
+        Calls.badTrain("car old 50 leak 1 leak 1;", 18, 3);
+        Calls.badTrain("car old 50 hose 1 hose 1;", 18, 3);
+        Calls.badTrain("car old 50 stuck on stuck off;", 20, 3);
+        Calls.badTrain("car old 50 out keep 1 leak 1 hose 1 stuck on out;", 45, 3);
+        Calls.badTrain("full 400;car old 50;car old 5;", 28, 2);
     }
 
     private static void trainLength() {
-        good("car old 50;" + blanks(689), 1);
-        bad("car old 50;" + blanks(690), 700, 1);
-        bad("car old 50;" + blanks(728), 700, 1);
-        bad("car old 5;" + blanks(728), 8, 2);
-        bad(blanks(740), 700, 1);
-        bad(blanks(700), 700, 1);
-        bad("car old 50;" + blanks(689) + "!", 700, 1);
-        bad("car old 50;" + blanks(688) + "!" + blanks(20), 699, 1);
+        Calls.goodTrain("car old 50;" + Calls.blanks(689), 1);
+        Calls.badTrain("car old 50;" + Calls.blanks(690), 700, 1);
+        Calls.badTrain("car old 50;" + Calls.blanks(728), 700, 1);
+        Calls.badTrain("car old 5;" + Calls.blanks(728), 8, 2);
+        Calls.badTrain(Calls.blanks(740), 700, 1);
+        Calls.badTrain(Calls.blanks(700), 700, 1);
+        Calls.badTrain("car old 50;" + Calls.blanks(689) + "!", 700, 1);
+        Calls.badTrain("car old 50;" + Calls.blanks(688) + "!" + Calls.blanks(20), 699, 1);
         // A token that begins ahead of the 700th byte is read whole: first a good one, then one that is none.
-        bad("car old 50" + blanks(688) + "keep 1;", 700, 1);
-        bad("car old 50" + blanks(688) + "keepp 1;", 698, 1);
-        bad("car old 50" + blanks(689) + "keeeeep 1;", 699, 1);
-        bad("car old 50 keep" + blanks(684) + "123;", 699, 2);
-        bad("car old 50 keep" + blanks(685) + "123;", 700, 1);
-        bad("car old 50 keep 1" + blanks(680) + "keep 1;", 697, 3);
-        bad("full 700;" + blanks(690) + "full 700;", 699, 3);
-        bad("full 700;" + blanks(691) + "full 700;", 700, 1);
-        good("car old 50;" + blanks(678) + "car old 51;", 2);
-        bad("car old 50;" + blanks(679) + "car old 51;", 700, 1);
+        Calls.badTrain("car old 50" + Calls.blanks(688) + "keep 1;", 700, 1);
+        Calls.badTrain("car old 50" + Calls.blanks(688) + "keepp 1;", 698, 1);
+        Calls.badTrain("car old 50" + Calls.blanks(689) + "keeeeep 1;", 699, 1);
+        Calls.badTrain("car old 50 keep" + Calls.blanks(684) + "123;", 699, 2);
+        Calls.badTrain("car old 50 keep" + Calls.blanks(685) + "123;", 700, 1);
+        Calls.badTrain("car old 50 keep 1" + Calls.blanks(680) + "keep 1;", 697, 3);
+        Calls.badTrain("full 700;" + Calls.blanks(690) + "full 700;", 699, 3);
+        Calls.badTrain("full 700;" + Calls.blanks(691) + "full 700;", 700, 1);
+        Calls.goodTrain("car old 50;" + Calls.blanks(678) + "car old 51;", 2);
+        Calls.badTrain("car old 50;" + Calls.blanks(679) + "car old 51;", 700, 1);
     }
 
     private static void carsAndTheSeventeenth() {
-        good("car old 50;".repeat(16), 16);
-        bad("car old 50;".repeat(17), 176, 4);
-        bad("car old 50;".repeat(16) + "car", 176, 4);
-        bad("car old 50;".repeat(16) + "cat", 176, 1);
-        good("car old 50;".repeat(16) + "full 700;feed 3;", 18);
+        Calls.goodTrain("car old 50;".repeat(16), 16);
+        Calls.badTrain("car old 50;".repeat(17), 176, 4);
+        Calls.badTrain("car old 50;".repeat(16) + "car", 176, 4);
+        Calls.badTrain("car old 50;".repeat(16) + "cat", 176, 1);
+        Calls.goodTrain("car old 50;".repeat(16) + "full 700;feed 3;", 18);
         TrainPipe p = new TrainPipe();
         Check.train(p, "car old 50;".repeat(15) + "car slow 77;");
         Check.due("16 cars", p.count(0), 16);
@@ -187,71 +167,53 @@ public final class TextTest {
         Check.thrown("the 17th", () -> p.car(17, 1));
     }
 
-    private static void goodHandle(String text, int steps, int ticks) {
-        TrainPipe p = new TrainPipe();
-        Check.due("handle '" + text + "'", Check.handle(p, text), steps);
-        Check.due("fault of '" + text + "'", p.fault(), 0);
-        Check.due("steps of '" + text + "'", p.count(1), steps);
-        Check.due("ticks of '" + text + "'", p.count(3), ticks);
-        Check.due("tape behind '" + text + "'", p.count(4), 0);
-    }
-
-    private static void badHandle(String text, int place, int kind) {
-        TrainPipe p = new TrainPipe();
-        Check.handle(p, "hold 7;");
-        Check.due("handle '" + text + "'", Check.handle(p, text), -1 - place);
-        Check.due("fault of '" + text + "'", p.fault(), kind);
-        Check.due("the handle stays behind '" + text + "'", p.count(3), 7);
-        Check.due("tape behind '" + text + "'", p.count(4), 0);
-    }
-
     private static void handlesAsTold() {
-        goodHandle("", 0, 0);
-        goodHandle(" \n", 0, 0);
-        goodHandle("both;", 0, 0);
-        goodHandle("both ; let 1;", 1, 1);
-        goodHandle("let 99;hold 1;draw 1 99;draw 99 1;dump 50;", 5, 250);
-        goodHandle("dump 1;".repeat(20), 20, 20);
-        goodHandle("both;" + "hold 99;".repeat(20), 20, 1980);
+        Calls.goodHandle("", 0, 0);
+        Calls.goodHandle(" \n", 0, 0);
+        Calls.goodHandle("both;", 0, 0);
+        Calls.goodHandle("both ; let 1;", 1, 1);
+        Calls.goodHandle("let 99;hold 1;draw 1 99;draw 99 1;dump 50;", 5, 250);
+        Calls.goodHandle("dump 1;".repeat(20), 20, 20);
+        Calls.goodHandle("both;" + "hold 99;".repeat(20), 20, 1980);
     }
 
     private static void handleFaults() {
-        badHandle(";", 0, 1);
-        badHandle("both", 4, 1);
-        badHandle("both;both;", 5, 1);
-        badHandle("let 1;both;", 6, 1);
-        badHandle("let;", 3, 1);
-        badHandle("let", 3, 1);
-        badHandle("let 5", 5, 1);
-        badHandle("let 5 5;", 6, 1);
-        badHandle("draw 5;", 6, 1);
-        badHandle("draw 5 5 5;", 9, 1);
-        badHandle("drop 5;", 0, 1);
-        badHandle("5;", 0, 1);
-        badHandle("car old 50;", 0, 1);
-        badHandle("let 0;", 4, 2);
-        badHandle("let 100;", 4, 2);
-        badHandle("hold 0;", 5, 2);
-        badHandle("dump 100;", 5, 2);
-        badHandle("draw 0 5;", 5, 2);
-        badHandle("draw 100 5;", 5, 2);
-        badHandle("draw 5 0;", 7, 2);
-        badHandle("draw 5 100;", 7, 2);
-        badHandle("dump 1;".repeat(21), 140, 4);
-        badHandle("dump 1;".repeat(20) + " let", 141, 4);
-        badHandle("dump 1;".repeat(20) + "both;", 140, 1);
-        badHandle("both;" + "dump 1;".repeat(21), 145, 4);
+        Calls.badHandle(";", 0, 1);
+        Calls.badHandle("both", 4, 1);
+        Calls.badHandle("both;both;", 5, 1);
+        Calls.badHandle("let 1;both;", 6, 1);
+        Calls.badHandle("let;", 3, 1);
+        Calls.badHandle("let", 3, 1);
+        Calls.badHandle("let 5", 5, 1);
+        Calls.badHandle("let 5 5;", 6, 1);
+        Calls.badHandle("draw 5;", 6, 1);
+        Calls.badHandle("draw 5 5 5;", 9, 1);
+        Calls.badHandle("drop 5;", 0, 1);
+        Calls.badHandle("5;", 0, 1);
+        Calls.badHandle("car old 50;", 0, 1);
+        Calls.badHandle("let 0;", 4, 2);
+        Calls.badHandle("let 100;", 4, 2);
+        Calls.badHandle("hold 0;", 5, 2);
+        Calls.badHandle("dump 100;", 5, 2);
+        Calls.badHandle("draw 0 5;", 5, 2);
+        Calls.badHandle("draw 100 5;", 5, 2);
+        Calls.badHandle("draw 5 0;", 7, 2);
+        Calls.badHandle("draw 5 100;", 7, 2);
+        Calls.badHandle("dump 1;".repeat(21), 140, 4);
+        Calls.badHandle("dump 1;".repeat(20) + " let", 141, 4);
+        Calls.badHandle("dump 1;".repeat(20) + "both;", 140, 1);
+        Calls.badHandle("both;" + "dump 1;".repeat(21), 145, 4);
     }
 
     private static void handleLength() {
-        goodHandle("dump 1;" + blanks(293), 1, 1);
-        badHandle("dump 1;" + blanks(294), 300, 1);
-        badHandle(blanks(301), 300, 1);
-        goodHandle(blanks(300), 0, 0);
-        badHandle("dump 1" + blanks(293) + "1234", 299, 1);
-        badHandle("dump" + blanks(295) + "123", 299, 2);
-        badHandle("dump" + blanks(295) + "12;", 300, 1);
-        badHandle("dump 0;" + blanks(600), 5, 2);
+        Calls.goodHandle("dump 1;" + Calls.blanks(293), 1, 1);
+        Calls.badHandle("dump 1;" + Calls.blanks(294), 300, 1);
+        Calls.badHandle(Calls.blanks(301), 300, 1);
+        Calls.goodHandle(Calls.blanks(300), 0, 0);
+        Calls.badHandle("dump 1" + Calls.blanks(293) + "1234", 299, 1);
+        Calls.badHandle("dump" + Calls.blanks(295) + "123", 299, 2);
+        Calls.badHandle("dump" + Calls.blanks(295) + "12;", 300, 1);
+        Calls.badHandle("dump 0;" + Calls.blanks(600), 5, 2);
     }
 
     private static void faultsAndWhatStays() {
