@@ -129,6 +129,10 @@ final class BoundsOfGuesses {
         }
         Check.due("9 gauges", fitsTimes(p, 9), -1);
         Check.due("10 gauges", fitsTimes(p, 10), -1);
+        // Those of an older call do not count.
+        Calls.fits(p, 0, -1, 9, 700, 700, 8, 1, 1, 7, 1, 1, 6, 1, 1, 5, 1, 1, 4, 1, 1, 3, 1, 1, 2, 1, 1);
+        Check.due("one behind eight", Calls.fits(p, 0, -1, 9, 700, 700), 5);
+        Check.due("two behind eight", Calls.fits(p, 0, -1, 9, 700, 700, 9, 700, 700), 5);
         // Each of them counts: one that no GUESS fits, at each place of eight.
         for (int wrong = 0; wrong < 8; wrong++) {
             for (int i = 0; i < 8; i++) {

@@ -758,6 +758,12 @@ final class BoundsOfRuns {
         Check.due("it has to brake", p.cut(0, 1, 0, 0), 0);
         Check.due("the train is as it was", p.car(2, 2), 0);
         Check.due("and its out ones", p.car(3, 2), 1);
+        // Behind a longer TRAIN: one of the two has to brake, whichever of the ten was to choose there.
+        p = Calls.pipe(LEAKING.repeat(10), "");
+        Check.due("ten to choose", p.cut(-1, 1, 0, 0), 10);
+        Check.train(p, LEAKING + "car old 10 out;" + LEAKING);
+        Check.due("two to choose", p.cut(-1, 1, 0, 0), 2);
+        Check.due("one of two has to brake", p.cut(0, 2, 0, Calls.MOST), 1);
     }
 
     private static void cutZeroToAll() {

@@ -131,6 +131,20 @@ final class BoundsOfTape {
         Check.due("two lines", p.train(), 2);
         Check.due("the first one", p.car(1, 1), 12);
         Check.due("not the one that was cut off", p.car(2, 1), 14);
+        // What was cut off is no part of the last TOKEN, whether it was a digit or a letter.
+        for (String behind : new String[] {"5;", "x;", ";"}) {
+            Check.put(p, "car old 50" + behind);
+            p.end(10);
+            Check.due("a number ahead of '" + behind + "'", p.train(), -11);
+            Check.due("ends there", p.fault(), 1);
+            Check.put(p, "let" + behind);
+            p.end(3);
+            Check.due("a word ahead of '" + behind + "'", p.handle(), -4);
+            Check.due("ends there, too", p.fault(), 1);
+        }
+        Check.put(p, "car old 50;!");
+        p.end(11);
+        Check.due("nor what can be none", p.train(), 1);
         p.feed(1, 1, 1, 1, 1);
         Check.due("0 of 20", p.end(0), true);
         Check.due("none is there", p.count(4), 0);
@@ -152,6 +166,7 @@ final class BoundsOfTape {
     private static void texts() {
         Sentence.holds("Promise 4", "`int train()`: The tape (empty then, here and below) is the TRAIN now:",
             BoundsOfTape::theTapeIsTheTrain);
+        Sentence.holds("Promise 4", "is the TRAIN now:", BoundsOfTape::nothingOlderIsLeft);
         Sentence.holds("Promise 4", "how many LINES;", BoundsOfTape::howManyLines);
         Sentence.holds("Promise 4", "-1 less the place of a FAULT: it stays.", BoundsOfTape::theTrainStays);
         Sentence.holds("Promise 5", "`int handle()`: The tape is the HANDLE now: how many STEPS;",
@@ -200,6 +215,34 @@ final class BoundsOfTape {
         Check.put(p, 1);
         Check.due("next refuses", p.next(), -1);
         Check.due("behind next", p.count(4), 0);
+    }
+
+    /** Behind longer TRAINS everything is answered as by an object that has never had one. */
+    private static void nothingOlderIsLeft() {
+        for (String secondCar : new String[] {"car quick 60 leak 3;", "car old 60 out;"}) {
+            for (int call = 0; call < ASKING.size(); call++) {
+                TrainPipe fresh = new TrainPipe();
+                tellWhatIsAsked(fresh, secondCar);
+                TrainPipe worn = new TrainPipe();
+                wear(worn);
+                tellWhatIsAsked(worn, secondCar);
+                Check.due(call + " with " + secondCar, ASKING.get(call).applyAsInt(worn),
+                    ASKING.get(call).applyAsInt(fresh));
+            }
+            oneLastCell(secondCar);
+        }
+    }
+
+    private static void oneLastCell(String secondCar) {
+        TrainPipe fresh = new TrainPipe();
+        TrainPipe worn = new TrainPipe();
+        wear(worn);
+        tellWhatIsAsked(fresh, secondCar);
+        tellWhatIsAsked(worn, secondCar);
+        for (int tick = 0; tick <= 40; tick++) {
+            Check.due("first cell in " + tick, worn.at(tick, 0, 0), fresh.at(tick, 0, 0));
+            Check.due("last cell in " + tick, worn.at(tick, 3, 0), fresh.at(tick, 3, 0));
+        }
     }
 
     private static void howManyLines() {
@@ -374,8 +417,8 @@ final class BoundsOfTape {
     private static final List<ToIntFunction<TrainPipe>> ASKING = List.of(
         p -> p.at(9, 2, 1), p -> p.hears(3), p -> p.easy(), p -> p.run(1, 90, 3), p -> p.run(40, 3000, 90),
         p -> p.help(1, 90, 3, 5000), p -> p.parted(1, 2, 1, 90, 3), p -> p.parted(2, 300, -1, 90, 3),
-        p -> p.order(1, 90, 3, 0), p -> p.order(1, 90, 3, 1), p -> p.cut(1, 90, 3, 3000), p -> p.cut(-1, 90, 0, 9999),
-        p -> Calls.fits(p, 99, -1, 5, 200, 600), p -> Calls.fits(p, 5, 3, 7, 200, 600), p -> p.suspects(0),
+        p -> p.order(1, 90, 3, 0), p -> p.order(1, 90, 3, 1), p -> p.cut(1, 90, 3, 9999), p -> p.cut(-1, 90, 0, 2500),
+        p -> Calls.fits(p, 9, -1, 5, 472, 463), p -> Calls.fits(p, 3, 0, 7, 476, 466), p -> p.suspects(0),
         p -> Calls.next(p, 1, 2), p -> p.car(2, 1), p -> p.count(0));
 
     /** What one call asks does not change what another one answers. */
@@ -391,10 +434,31 @@ final class BoundsOfTape {
     }
 
     private static TrainPipe asked() {
-        TrainPipe p = Calls.pipe("full 500;feed 30;car old 40;car quick 60 leak 3;car slow 30 hose 40;",
-            "both;draw 9 5;hold 3;let 9;draw 30 1;hold 1;");
-        Calls.day(p, true, 1, 2, 3);
+        TrainPipe p = new TrainPipe();
+        tellWhatIsAsked(p, "car quick 60 leak 3;");
         return p;
+    }
+
+    private static void tellWhatIsAsked(TrainPipe p, String secondCar) {
+        Check.train(p, "full 500;feed 30;car old 40;" + secondCar + "car slow 30 hose 40;");
+        Check.handle(p, "both;draw 9 5;hold 3;let 9;draw 30 1;hold 1;");
+        Calls.day(p, true, 1, 2, 3);
+    }
+
+    /** As much as there can be of all that is used again: longer trains and handles, more gauges and guesses. */
+    private static void wear(TrainPipe p) {
+        Check.handle(p, "both;" + "draw 3 9;let 5;".repeat(10));
+        for (int cars : new int[] {16, 10, 6}) {
+            Check.train(p, "full 900;feed 99;" + "car quick 99 keep 3 leak 9 hose 90 stuck on;".repeat(cars));
+            p.run(0, 3000, 0);
+            p.help(0, 300, 0, 90000);
+            p.parted(cars - 1, 5, 0, 900, 0);
+            p.order(0, 300, 0, 1);
+            p.cut(-40, 300, 0, 90000);
+            Calls.fits(p, 99, -1, 5, 1, 1, 6, 1, 1, 7, 1, 1, 5, 1, 1, 6, 1, 1, 7, 1, 1, 5, 1, 1, 5, 1, 1);
+            Calls.fits(p, 99, -1, 1, 897, 892);
+            p.walks(300);
+        }
     }
 
     private static void fiveHundredAndTwelveCalls() {

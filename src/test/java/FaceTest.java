@@ -98,6 +98,8 @@ public final class FaceTest {
         while (imports.find()) {
             Check.due("import " + imports.group(1), imports.group(1).equals("java.util.NoSuchElementException"), true);
         }
+        Check.due("two calls throw", text.split("throw new ", -1).length - 1, 2);
+        Check.due("what the document says", text.split("throw new NoSuchElementException\\(\"", -1).length - 1, 2);
         int begun = -1;
         String[] lines = text.split("\n");
         for (int i = 0; i < lines.length; i++) {
@@ -108,6 +110,10 @@ public final class FaceTest {
                 begun = -1;
             }
             Check.due("a line of at most 120 signs: " + (i + 1), lines[i].length() <= 120, true);
+            // Rows and objects are made with the TrainPipe: a 'new' stands at a final field or behind throw.
+            boolean makes = lines[i].matches(".*\\bnew [A-Za-z]+[\\[(].*");
+            boolean may = lines[i].contains("throw new") || lines[i].matches(" +(private )?final .* = new .*;");
+            Check.due("an object made at line " + (i + 1), makes && !may, false);
         }
     }
 }

@@ -547,7 +547,10 @@ final class Model {
     int fits(int off, int hot) {
         List<Integer> b = takeTape();
         int n = train.cars.size();
-        if (b.isEmpty() || b.size() > 48 || b.size() % 6 != 0 || off < 0 || off > 99 || hot < -1 || hot > (1 << n) - 1) {
+        if (b.isEmpty() || b.size() > 48 || b.size() % 6 != 0 || off < 0 || off > 99) {
+            return -1;
+        }
+        if (hot < -1 || hot > (1 << n) - 1) {
             return -1;
         }
         int last = 0;

@@ -239,12 +239,6 @@ public final class TextTest {
     private static void carFacts() {
         TrainPipe p = new TrainPipe();
         Check.train(p, "car quick 12 out keep 2 leak 34 hose 56 stuck on;car slow 98 stuck off;car old 10;");
-        int[][] facts = {{1, 12, 1, 2, 34, 56, 1}, {2, 98, 0, 0, 0, 100, 2}, {0, 10, 0, 0, 0, 100, 0}};
-        for (int c = 1; c <= 3; c++) {
-            for (int what = 0; what <= 6; what++) {
-                Check.due("car " + c + " " + what, p.car(c, what), facts[c - 1][what]);
-            }
-        }
         Check.thrown("car 0", () -> p.car(0, 0));
         Check.thrown("car 4", () -> p.car(4, 0));
         Check.thrown("what -1", () -> p.car(1, -1));
