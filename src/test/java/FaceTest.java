@@ -7,6 +7,7 @@ import java.nio.file.Files;
 import java.nio.file.Path;
 import java.util.ArrayList;
 import java.util.List;
+import java.util.Set;
 import java.util.TreeSet;
 import java.util.regex.Matcher;
 import java.util.regex.Pattern;
@@ -22,6 +23,9 @@ public final class FaceTest {
         "int next()", "int count(int)"};
     private static final String[] RULED_OUT = {"->", "::", "catch", "finally", "synchronized", "assert ", "static {",
         "Exact", "System.out", "Random", "nanoTime", "currentTimeMillis", "instanceof", "double", "float", "String["};
+    /** The library's static functions that the class needs; rule 4 lists all of them. */
+    private static final Set<String> NEEDED =
+        Set.of("Math.min", "Math.max", "Math.abs", "Integer.bitCount", "System.arraycopy");
 
     public static void main(String[] args) throws IOException {
         face();
@@ -97,6 +101,10 @@ public final class FaceTest {
         Matcher imports = Pattern.compile("(?m)^import (.*);$").matcher(text);
         while (imports.find()) {
             Check.due("import " + imports.group(1), imports.group(1).equals("java.util.NoSuchElementException"), true);
+        }
+        Matcher library = Pattern.compile("\\b([A-Z][a-z]\\w*\\.[a-z]\\w*)\\(").matcher(text);
+        while (library.find()) {
+            Check.due("of the library: " + library.group(1), NEEDED.contains(library.group(1)), true);
         }
         Check.due("two calls throw", text.split("throw new ", -1).length - 1, 2);
         Check.due("what the document says", text.split("throw new NoSuchElementException\\(\"", -1).length - 1, 2);
